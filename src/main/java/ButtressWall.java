@@ -690,11 +690,11 @@ public final class ButtressWall {
         }
 
         boolean isUp(int f) {
-            return hasBit(up, f);
+            return (up >> f & 1) == 1;
         }
 
         boolean hasFallen(int b) {
-            return hasBit(fallen, b);
+            return (fallen >> b & 1) == 1;
         }
 
         void comeDown(int f) {
@@ -788,13 +788,14 @@ public final class ButtressWall {
         /** An hour goes by: the bays that fall in it, as bits. */
         int goBy(Wall wall, State state) {
             int held = heldBays(wall, state);
+            boolean carts = wall.hasCarts(state.hour);
             for (int f = 0; f < wall.buttresses && f < MAX_BUTTRESSES; f++) {
                 int change = state.isUp(f) ? tiring(wall, state, f) : -resting(wall, f);
                 state.tired[f] = Math.max(0, Math.min(MAX_TIRED, state.tired[f] + change));
             }
             int fell = ageBays(wall, state, held);
             state.fallen |= fell;
-            leaveTired(wall, state);
+            leaveTired(wall, state, carts);
             state.hour++;
             return fell;
         }
@@ -832,9 +833,9 @@ public final class ButtressWall {
             return fell;
         }
 
-        private static void leaveTired(Wall wall, State state) {
+        private static void leaveTired(Wall wall, State state, boolean carts) {
             for (int f = 0; f < wall.buttresses && f < MAX_BUTTRESSES; f++) {
-                boolean worn = state.tired[f] > wall.bears[f] && !state.isScared(wall, f);
+                boolean worn = state.tired[f] > wall.bears[f] && !(carts && wall.kind[f] == SHY);
                 if (worn || state.hasFallen(state.bayOf[f])) {
                     state.comeDown(f);
                 }
@@ -950,33 +951,29 @@ public final class ButtressWall {
 
         /** Key has the hours of all that have been down, and this hour for all that are left to come down. */
         private void tryHour(Wall wall, int hour, int left, int key) {
-            if (key >= firstKey || hour > MAX_ROSTER_HOURS) {
+            if (key >= firstKey) {
                 return;
             }
-            if (hour >= hours) {
-                firstKey = left == 0 ? key : firstKey;
+            if (hour >= hours || hour >= MAX_ROSTER_HOURS) {
+                firstKey = key;
                 return;
             }
+            State then = ahead[hour + 1];
             // in the last hour all that are left have to come down
             int fewest = hour == hours - 1 ? left : 0;
             for (int off = left; off >= fewest; off--) {
-                if (isPart(off, left) && holdsWithout(wall, hour, off)) {
+                if (!isPart(off, left)) {
+                    continue;
+                }
+                then.takeFrom(ahead[hour]);
+                then.up &= ~off;
+                boolean holds = clock.goBy(wall, then) == 0;
+                then.up |= off;
+                if (holds) {
                     int stay = left & ~off;
                     tryHour(wall, hour + 1, stay, key + oneHourMore(stay));
                 }
             }
-        }
-
-        private boolean holdsWithout(Wall wall, int hour, int off) {
-            if (hour < 0 || hour >= MAX_ROSTER_HOURS) {
-                return false;
-            }
-            State then = ahead[hour + 1];
-            then.takeFrom(ahead[hour]);
-            then.up &= ~off;
-            int fell = clock.goBy(wall, then);
-            then.up |= off;
-            return fell == 0;
         }
 
         private static int oneHourMore(int set) {
