@@ -164,7 +164,7 @@ public final class ButtressWall {
         }
         trial.startFrom(now);
         int hours = trial.fallsBehind(laid, STANDS_HOURS);
-        return hours == NONE || what == 0 ? hours : trial.lowestFell();
+        return what == 0 ? hours : trial.lowestFell();
     }
 
     public int needed() {
@@ -1002,8 +1002,8 @@ public final class ButtressWall {
         }
 
         void remember(State now) {
-            states[next].takeFrom(now);
-            next = (next + 1) % MAX_UNDONE;
+            states[Math.floorMod(next, MAX_UNDONE)].takeFrom(now);
+            next++;
             size = Math.min(size + 1, MAX_UNDONE);
         }
 
@@ -1011,9 +1011,9 @@ public final class ButtressWall {
             if (size <= 0) {
                 return false;
             }
-            next = (next + MAX_UNDONE - 1) % MAX_UNDONE;
+            next--;
             size--;
-            now.takeFrom(states[next]);
+            now.takeFrom(states[Math.floorMod(next, MAX_UNDONE)]);
             return true;
         }
 

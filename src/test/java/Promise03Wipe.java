@@ -26,7 +26,7 @@ public final class Promise03Wipe {
 
     static void wipedOnceMoreItWas0Long(Bounds due) {
         ButtressWall x = Told.lived();
-        due.is("wipe()", x.wipe(), Told.LIVED.length() + 1);
+        due.is("wipe()", x.wipe(), Told.LEFT.length());
         due.is("wipe() once more", x.wipe(), 0);
     }
 

@@ -234,5 +234,6 @@ public final class Promise04Fault {
         due.changesNothing("fault()", Told::lived, x -> x.fault());
         due.changesNothing("fault()", Told::livedLong, x -> x.fault());
         due.changesNothing("fault() of none", () -> Check.laid("b1,1;f0,1,0,1;c1;d0;"), x -> x.fault());
+        due.changesNothing("fault() of an empty text", ButtressWall::new, x -> x.fault());
     }
 }

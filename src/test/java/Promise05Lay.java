@@ -66,6 +66,16 @@ public final class Promise05Lay {
         due.same("all", Told.whole(x), Told.whole(Check.laid(Told.LIVED)));
     }
 
+    static void nothingIsUnheldAndNobodyTiredInTheLargestWall(Bounds due) {
+        ButtressWall x = Check.laid("b99,20;".repeat(8) + "f0,1,0,30;".repeat(6));
+        x.pass(3);
+        due.same("unheld ahead", Check.bays(x, 5), "3 3 3 3 3 3 3 3");
+        due.same("TIRED ahead", Check.buttresses(x, 4), "3 3 3 3 3 3");
+        x.lay();
+        due.same("unheld", Check.bays(x, 5), "0 0 0 0 0 0 0 0");
+        due.same("TIRED", Check.buttresses(x, 4), "0 0 0 0 0 0");
+    }
+
     static void nothingCanBeUndoneThen(Bounds due) {
         ButtressWall x = livedWith("b1,1;");
         x.lay();

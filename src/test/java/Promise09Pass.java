@@ -39,6 +39,14 @@ public final class Promise09Pass {
         due.is("pass(2) behind undo()", x.pass(2), 27);
     }
 
+    static void theLastOf512CallsStillCounts(Bounds due) {
+        ButtressWall x = new ButtressWall();
+        for (int call = 1; call <= 511; call++) {
+            due.is("pass(24), call " + call, x.pass(24), 24 * call);
+        }
+        due.is("undo(), call 512", x.undo(), 7);
+    }
+
     static void manyHoursAreAsManyTimesOne(Bounds due) {
         ButtressWall x = new ButtressWall();
         ButtressWall y = new ButtressWall();

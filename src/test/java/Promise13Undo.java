@@ -94,6 +94,17 @@ public final class Promise13Undo {
         }
     }
 
+    static void theTextIsNotUndone(Bounds due) {
+        ButtressWall x = Check.laid("b0,0;");
+        x.pass(1);
+        Check.write(x, "b1,1;");
+        x.pass(1);
+        x.undo();
+        x.undo();
+        due.is("letters", x.count(8), 10);
+        due.is("lay()", x.lay(), 2);
+    }
+
     static void undoingIsNoDeedOfItsOwn(Bounds due) {
         ButtressWall x = Check.laid("b0,0;");
         x.pass(1);

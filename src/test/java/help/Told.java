@@ -55,15 +55,17 @@ final class Told {
         return all.append(left).toString();
     }
 
-    /** What the text tells: what is laid by it once it is cut back to what has no fault is not asked here. */
+    /** What the text tells: where its fault is, and what is laid by it, as it is and with a last BAY made whole. */
     static String text(ButtressWall x) {
-        return x.fault() + " " + x.lay() + " " + wall(x);
+        String told = x.fault() + " " + x.lay();
+        Check.write(x, "3,3;");
+        return told + " " + x.fault() + " " + x.lay() + " " + wall(x);
     }
 
     /**
      * A wall to which all has happened, in an hour with CARTS: BAY 2 has FALLEN, BUTTRESS 0 (PLAIN) is DOWN and was
      * SENT to BAY 1, 1 (SHY) and 3 (YOUNG) are UP there, 2 (OLD) is DOWN at the FALLEN one; 3 can be UNDONE, 1 is
-     * KEPT, and the text has a fault at its end.
+     * KEPT, and the text is another one by now, with a fault at its end.
      */
     static ButtressWall lived() {
         ButtressWall x = Check.laid(LIVED);
@@ -71,11 +73,12 @@ final class Told {
         x.pass(1);
         x.down(0);
         x.send(0, 1);
-        x.write('b');
+        x.wipe();
+        Check.write(x, LEFT);
         return x;
     }
 
-    static final String LIVED = "b9,3;b9,20;b8,0;f0,9,0,9;f3,9,1,9;f2,5,2,9;f1,1,1,9;c0;c1;d2;";
+    static final String LIVED = "b9,3;b9,20;b8,0;f0,9,0,9;f3,9,1,9;f2,5,2,9;f1,1,1,9;c0;c1;d2;", LEFT = "b7,6;f1,5,0,4;b";
 
     /** One that has as much as can be UNDONE and KEPT. */
     static ButtressWall livedLong() {
