@@ -54,9 +54,16 @@ public final class FaceTest {
         CHECK.due("parameters", constructors[0].getParameterCount(), 0);
         for (Class<?> inside : face.getDeclaredClasses()) {
             CHECK.holds("inside: " + inside, Modifier.isStatic(inside.getModifiers()));
-            for (Method method : inside.getDeclaredMethods()) {
-                CHECK.holds("name " + method.getName(), !open.contains(method.getName() + method.getParameterCount()));
-            }
+            ownNames(inside, due);
+        }
+        ownNames(face, due);
+    }
+
+    /** No method beside the face bears the name of one of it, whatever it takes. */
+    private static void ownNames(Class<?> type, Set<String> face) {
+        for (Method method : type.getDeclaredMethods()) {
+            boolean named = face.stream().anyMatch(call -> call.replaceAll("\\d", "").equals(method.getName()));
+            CHECK.holds("name " + method, !named || Modifier.isPublic(method.getModifiers()));
         }
     }
 
